@@ -13,6 +13,7 @@ public final class TideDesk {
     private static final int SHIPS = 40, PAIRS_DEEP = 4, TRACE_LENGTH = 100;
     private static final int DEEP = 0, LIGHT = 1, TOW = 2, FERRY = 3, PAIR = 4, ANY_KIND = 5;
     private static final int NEED = 0, KEEL = 1, PACE = 2, PATIENCE = 3, BY_DAY = 4;
+    // By what is asked; of the KEEL they have no BODY of their own.
     private static final int[] PAIR_BODIES = {12, 20, 32, 43, 52};
     private static final int FLEETS = 4, PLACES = 8;
     private static final int ROUTES = 6, LEGS = 4, WINDOWS_KEPT = 20, MINUTES_AT_ONCE = 120, PASSAGES = 40;

@@ -7,6 +7,7 @@ public final class FleetsTest {
         join();
         member();
         move();
+        moveOfNoPlaces();
         moveWithin();
         moveRefused();
         shared();
@@ -90,6 +91,13 @@ public final class FleetsTest {
         due.row("none", Due.row(0, 0), d.move(0, 5, 1, 4, 0), d.move(0, 0, 1, 0, 0));
     }
 
+    private static void moveOfNoPlaces() {
+        TideDesk d = withShips();
+        d.fleet(0, 0, 0);
+        d.fleet(1, 1, 0);
+        due.row("no places are no NOTHING", Due.row(0, Due.INDEX, 0), d.move(0, 0, 1, 0, 0), d.move(0, 0, 1, 0, 1), d.move(1, 0, 1, 0, 0));
+    }
+
     private static void moveWithin() {
         TideDesk d = withShips();
         d.fleet(0, 5, 5);
@@ -136,5 +144,9 @@ public final class FleetsTest {
         d.fleet(1, 5, 0);
         due.is("no places", d.shared(1, 5), Due.ZERO);
         due.is("as before", d.asked(), 4);
+        d.fleet(3, 5, 8);
+        for (int i = 0; i < 8; i++) d.join(3, i, i % 2);
+        due.is("shared", d.shared(3, 100), 1);
+        due.is("among eight", d.asked(), 12);
     }
 }

@@ -124,9 +124,13 @@ public final class GaugesTest {
         due.row("by hand", Due.row(26, 35, 44, 32), d.compare(0, 0, 1), d.compare(0, 3, 2), d.compare(0, 2, 3),
             d.compare(0, 4, 4));
         due.all("INDEX", Due.INDEX, d.compare(0, -1, 0), d.compare(0, 0, -1), d.compare(0, 10, 0), d.compare(0, 0, 10));
+        d.gauge(0, 0, 60);
+        d.reading(1, 0, Due.bits(7.0f));
+        d.reading(1, 0, Due.bits(6.0f));
+        due.row("of another GAUGE", Due.row(44, 35, Due.bits(6.0f)), d.compare(1, 0, 1), d.compare(1, 1, 0), d.air(1, 1));
         d.out(0, true);
         due.is("NULL", d.compare(0, 0, 99), Due.NULL);
-        due.all("BAD", Due.BAD, d.compare(-1, 0, 0), d.compare(1, 0, 0));
+        due.all("BAD", Due.BAD, d.compare(-1, 0, 0), d.compare(2, 0, 0));
     }
 
     private static void rule() {

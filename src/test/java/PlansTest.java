@@ -11,6 +11,8 @@ public final class PlansTest {
         planByLocks();
         planByReaches();
         planByZeroReaches();
+        planBySecondsOfLocks();
+        planWithoutFormerLegs();
         planWithFindings();
         planAsks();
         plannedStaysAsItWas();
@@ -18,6 +20,7 @@ public final class PlansTest {
         again();
         pass();
         passHolds();
+        passWithoutFormerLegs();
         passFails();
         held();
         due.end();
@@ -194,6 +197,41 @@ public final class PlansTest {
         due.is("none within", d.planned(6, 1), 6);
     }
 
+    private static void planBySecondsOfLocks() {
+        TideDesk d = desk();
+        int shoal = d.shoal(0, 0, 1);
+        d.leg(0, shoal, 0, NO_MARK);
+        d.passage(0, 0, 0);
+        d.passage(0, 0, 0);
+        due.is("plan", d.plan(), 2);
+        starts(d, 0, 1);
+    }
+
+    private static void planWithoutFormerLegs() {
+        TideDesk d = desk();
+        d.leg(0, 0, 0, NO_MARK);
+        d.leg(0, 2, 0, NO_MARK);
+        d.clear(0);
+        d.leg(0, 0, 0, NO_MARK);
+        d.passage(0, 0, 0);
+        d.passage(0, 0, 0);
+        due.is("plan", d.plan(), 2);
+        starts(d, 0, 0);
+        TideDesk e = desk();
+        e.leg(0, 0, 0, NO_MARK);
+        e.leg(0, 1, 300, NO_MARK);
+        e.clear(0);
+        e.leg(0, 0, 0, NO_MARK);
+        e.leg(1, 0, 0, NO_MARK);
+        e.leg(1, 1, 300, NO_MARK);
+        e.passage(0, 1, 100);
+        e.passage(0, 0, 100);
+        e.plan();
+        e.again(0);
+        e.plan();
+        starts(e, 100, 100);
+    }
+
     private static void planWithFindings() {
         TideDesk d = desk();
         d.shoal(1, 0, 0);
@@ -328,6 +366,20 @@ public final class PlansTest {
         due.is("a SHOAL without a LOCK twice; the other is free again", d.pass(1), 1);
         due.is("held", d.held(1), 1);
         due.is("HELD again", d.pass(0), Due.HELD);
+    }
+
+    private static void passWithoutFormerLegs() {
+        TideDesk d = desk();
+        d.leg(0, 2, 0, NO_MARK);
+        d.leg(0, 3, 0, NO_MARK);
+        d.passage(0, 0, 0);
+        due.row("two are HELD", Due.row(1, 2), d.pass(0), d.held(1));
+        d.clear(0);
+        d.leg(0, 2, 0, NO_MARK);
+        due.row("one is HELD", Due.row(1, 1), d.pass(0), d.held(1));
+        while (d.count(3) < 16) d.shoal(0, 0, 60);
+        d.leg(0, 15, 0, NO_MARK);
+        due.row("of sixteen SHOALS, each time", Due.row(1, 2, 1, 2), d.pass(0), d.held(1), d.pass(0), d.held(1));
     }
 
     private static void passFails() {

@@ -93,6 +93,8 @@ public final class RoutesTest {
         d.leg(0, 0, 50000, NO_MARK);
         due.row("comes", Due.row(7, 7 + 250, 7 + 12500), d.comes(0, 0, 0, 7), d.comes(0, 0, 1, 7), d.comes(0, 0, 2, 7));
         due.trace(d, 30);
+        d.leg(5, 0, 800, NO_MARK);
+        due.is("on another ROUTE", d.comes(0, 5, 0, 0), 200);
         due.row("at the last MOMENT", Due.row(Due.LAST_MOMENT, Due.NO), d.comes(0, 0, 1, Due.LAST_MOMENT - 250),
             d.comes(0, 0, 1, Due.LAST_MOMENT - 249));
         due.is("a PAIR", d.comes(4, 0, 1, 0), 250);
@@ -212,6 +214,8 @@ public final class RoutesTest {
         due.is("a ROUTE without LEGS", d.holds(0, 5, 43199), 1);
         d.ship(1, 0, 0, 0, 0, 0);
         due.is("PACE below 1", d.holds(5, 5, 0), Due.NO);
+        d.ship(1, 0, 1, 0, 0, 0);
+        due.is("PACE of 1", d.holds(6, 5, 0), 1);
         due.is("PACE below 1", d.holds(5, 0, 0), Due.NO);
         due.is("NO is no FINDING", d.count(8), 0);
         d.dredge(0, 1, -1000);

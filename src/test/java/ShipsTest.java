@@ -41,6 +41,16 @@ public final class ShipsTest {
         due.all("a 5th", Due.NO, d.ship(4, 0, 0, 0, 4, 0), d.ship(4, 0, 0, 0, 0, 4), d.ship(4, 0, 0, 0, -1, 4));
         due.is("BAD ahead of NO", d.ship(4, 0, 0, 0, 4, 5), Due.BAD);
         due.is("side by side", d.ship(4, 0, 0, 0, 3, 3), 5);
+        TideDesk e = new TideDesk();
+        due.row("SHIP 0 is one", Due.row(0, 1, 2, 3, Due.NO), e.ship(4, 0, 0, 0, -1, -1), e.ship(4, 0, 0, 0, 0, -1),
+            e.ship(4, 0, 0, 0, -1, 1), e.ship(4, 0, 0, 0, 2, 0), e.ship(4, 0, 0, 0, 0, 3));
+        due.is("of NOTHING", e.ask(0, NEED), Due.NULL);
+        TideDesk g = new TideDesk();
+        due.row("SHIP 0 is the second PART", Due.row(0, 1, 2, 3, Due.NO), g.ship(4, 0, 0, 0, -1, -1), g.ship(4, 0, 0, 0, -1, 0),
+            g.ship(4, 0, 0, 0, 1, -1), g.ship(4, 0, 0, 0, -1, 2), g.ship(4, 0, 0, 0, 3, -1));
+        TideDesk n = new TideDesk();
+        due.row("NOTHING is none", Due.row(0, 1, 2, 3), n.ship(4, 0, 0, 0, -1, -1), n.ship(4, 0, 0, 0, 0, -1),
+            n.ship(4, 0, 0, 0, 1, -1), n.ship(4, 0, 0, 0, -1, 2));
         while (d.count(5) < 40) d.ship(0, 0, 0, 0, 0, 0);
         due.is("NO ahead of FULL", d.ship(4, 0, 0, 0, 4, 0), Due.NO);
         due.is("FULL", d.ship(4, 0, 0, 0, 3, 0), Due.FULL);

@@ -108,5 +108,9 @@ public final class ShoalsTest {
         due.is("the first one of the STATION", d.water(0, 0), Due.real(2.0));
         d.out(1, true);
         due.is("it is OUT", d.water(0, 0), 0);
+        while (d.count(2) < 10) d.gauge(0, 0, 60);
+        Due.level(d, 2, 0);
+        d.shoal(2, 700, 0);
+        due.is("ten GAUGES, none of the STATION", d.water(1, 0), Due.real(7.0));
     }
 }

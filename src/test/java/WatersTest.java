@@ -14,6 +14,8 @@ public final class WatersTest {
         tide();
         stream();
         streamOfTheNearest();
+        stationsApart();
+        foundAnew();
         due.end();
     }
 
@@ -41,6 +43,50 @@ public final class WatersTest {
         due.is("STEPS of an hour", d.waters(0, 3600, 3), 1);
         due.row("found", Due.row(8000, 1), d.found(0, 0, 0), d.found(0, 0, 1));
         due.is("a level STATION", levelWaters(), 0);
+    }
+
+    /** STATION 0 has its HIGHS at 8000 and 16000, 11 at 1000 less. */
+    private static void stationsApart() {
+        TideDesk d = waving(8192, 0);
+        d.mean(11, 500);
+        d.wave(11, 2000, 8192, 8192);
+        d.survey(11, 0);
+        d.rule(2, 20);
+        due.row("waters", Due.row(40, 4), d.waters(11, 0, 200), d.waters(0, 0, 15));
+        due.row("MOMENTS", Due.row(3000, 7000, 159000, 4000, 8000), d.found(11, 0, 0), d.found(11, 1, 0), d.found(11, 39, 0),
+            d.found(0, 0, 0), d.found(0, 1, 0));
+        due.row("RANGES", Due.row(Due.real(4.0), Due.real(2.0)), d.range(11, 38), d.range(0, 0));
+        due.row("SPRINGS", Due.row(0, 0), d.spring(11, true), d.spring(0, true));
+        d.tide(11, 0, Due.bits(3.0f));
+        d.tide(0, 0, Due.bits(4.0f));
+        due.row("STREAMS", Due.row(Due.bits(3.0f), 0, Due.bits(4.0f), 0), d.stream(11, 5200), d.stream(11, 8800), d.stream(0, 9799),
+            d.stream(0, 6199));
+    }
+
+    /** What an earlier search has found is forgotten, though it found more. */
+    private static void foundAnew() {
+        TideDesk d = waving(8192, 0);
+        d.wave(0, 300, 2000, 1000);
+        d.wave(0, 1000, 8192, 0);
+        d.survey(0, 0);
+        d.waters(0, 0, 200);
+        due.is("the greatest RANGE is not the first", d.spring(0, true) > 0 ? 1 : 0, 1);
+        d.mean(0, 300);
+        d.wave(0, 1000, 8192, 4);
+        d.survey(0, 0);
+        due.is("one HIGH", d.waters(0, 4800, 10), 1);
+        due.row("found", Due.row(8000, 1, Due.NONE), d.found(0, 0, 0), d.found(0, 0, 1), d.found(0, 1, 0));
+        due.all("no RANGE", Due.NONE, d.spring(0, true), d.spring(0, false));
+        d.tide(0, 2, Due.bits(2.0f));
+        due.is("from the one HIGH", d.stream(0, 8000 + 7200), Due.bits(2.0f));
+        due.is("a LOW behind it", d.waters(0, 4800, 14), 2);
+        due.row("SPRING, NEAP", Due.row(0, 0), d.spring(0, true), d.spring(0, false));
+        double high = Double.longBitsToDouble(d.height(0, d.found(0, 0, 0), 0));
+        double low = Double.longBitsToDouble(d.height(0, d.found(0, 1, 0), 0));
+        due.is("HIGH and LOW", d.range(0, 0), Due.real(high - low));
+        due.is("a HIGH more", d.waters(0, 4800, 22), 3);
+        d.tide(0, 1, Due.bits(1.0f));
+        due.is("the first is nearer", d.stream(0, 11999), Due.bits(1.0f));
     }
 
     private static int levelWaters() {

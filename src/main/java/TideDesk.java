@@ -680,8 +680,9 @@ public final class TideDesk {
 
         int inForce(int owner, int t, int k) {
             int best = NONE;
+            int day = t / DAY;
             for (int i = 0; i < many; i++) {
-                boolean counts = owners[i] == owner && moments[i] <= k && days[i] <= t / DAY;
+                boolean counts = owners[i] == owner && moments[i] <= k && days[i] <= day;
                 if (counts && (best < 0 || days[i] >= days[best])) best = i;
             }
             return best;

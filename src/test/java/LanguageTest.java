@@ -95,12 +95,12 @@ public final class LanguageTest {
     private static void words(String code) {
         for (String word : new String[] {"import", "package", "throw", "throws", "try", "catch", "finally", "synchronized", "assert",
             "float", "Float", "Double", "Object", "System\\.(?!arraycopy)", "->", "::", "\\w+Exact", "hashCode", "toString", "equals",
-            "Random", "Thread", "protected", "NaN", "->"}) {
+            "Random", "Thread", "protected", "NaN"}) {
             String bounded = Character.isLetter(word.charAt(0)) ? "\\b" + word + (word.endsWith(")") ? "" : "\\b") : word;
             Matcher m = Pattern.compile(bounded).matcher(code);
             due.is("the word " + word, m.find() ? 1 : 0, 0);
         }
-        Matcher inLoop = Pattern.compile("\\bnew\\b").matcher(code.substring(code.indexOf("public int clock"), code.indexOf("class Tellings")));
-        due.is("no call makes an object", inLoop.find() ? 1 : 0, 0);
+        String calls = code.substring(code.indexOf("public int clock"), code.indexOf("class Tellings"));
+        due.is("no call makes an object", Pattern.compile("\\bnew\\b").matcher(calls).find() ? 1 : 0, 0);
     }
 }

@@ -217,6 +217,12 @@ public final class PlansTest {
         d.passage(0, 0, 0);
         due.is("plan", d.plan(), 2);
         starts(d, 0, 0);
+        TideDesk four = desk();
+        for (int i = 0; i < 4; i++) four.leg(5, 2, 0, NO_MARK);
+        four.passage(0, 5, 0);
+        four.passage(0, 5, 0);
+        due.is("plan", four.plan(), 2);
+        starts(four, 0, 10);
         TideDesk e = desk();
         e.leg(0, 0, 0, NO_MARK);
         e.leg(0, 1, 300, NO_MARK);
@@ -377,6 +383,12 @@ public final class PlansTest {
         d.clear(0);
         d.leg(0, 2, 0, NO_MARK);
         due.row("one is HELD", Due.row(1, 1), d.pass(0), d.held(1));
+        TideDesk e = new TideDesk();
+        e.shoal(0, 0, 60);
+        e.leg(0, 0, 0, NO_MARK);
+        e.ship(0, 0, 100, 0, 0, 0);
+        e.passage(0, 0, 0);
+        due.row("SHOAL 0 is free again", Due.row(1, 1), e.pass(0), e.pass(0));
         while (d.count(3) < 16) d.shoal(0, 0, 60);
         d.leg(0, 15, 0, NO_MARK);
         due.row("of sixteen SHOALS, each time", Due.row(1, 2, 1, 2), d.pass(0), d.held(1), d.pass(0), d.held(1));

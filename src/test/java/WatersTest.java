@@ -81,6 +81,11 @@ public final class WatersTest {
         due.is("from the one HIGH", d.stream(0, 8000 + 7200), Due.bits(2.0f));
         due.is("a LOW behind it", d.waters(0, 4800, 14), 2);
         due.row("SPRING, NEAP", Due.row(0, 0), d.spring(0, true), d.spring(0, false));
+        d.mean(11, 500);
+        d.wave(11, 2000, 8192, 8192);
+        d.survey(11, 0);
+        d.waters(11, 0, 3);
+        due.all("none of another STATION's", Due.NONE, d.spring(11, true), d.spring(11, false));
         double high = Double.longBitsToDouble(d.height(0, d.found(0, 0, 0), 0));
         double low = Double.longBitsToDouble(d.height(0, d.found(0, 1, 0), 0));
         due.is("HIGH and LOW", d.range(0, 0), Due.real(high - low));

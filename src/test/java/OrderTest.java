@@ -18,12 +18,12 @@ public final class OrderTest {
     private static void badAheadOfFull() {
         TideDesk d = Full.make();
         for (int i = 0; i < 8; i++) d.wave(0, 1, 1, 1);
-        while (d.count(1) < 60) d.survey(3, 0);
-        while (d.count(2) < 10) d.gauge(3, 0, 60);
-        while (d.count(3) < 16) d.shoal(3, 0, 0);
-        while (d.count(4) < 60) d.dredge(0, 0, 0);
-        while (d.count(5) < 40) d.ship(0, 0, 0, 0, 0, 0);
-        while (d.count(6) < 40) d.passage(1, Full.EMPTY, 0);
+        for (int i = 0; i < 60; i++) d.survey(3, 0);
+        for (int i = 0; i < 10; i++) d.gauge(3, 0, 60);
+        for (int i = 0; i < 16; i++) d.shoal(3, 0, 0);
+        for (int i = 0; i < 60; i++) d.dredge(0, 0, 0);
+        for (int i = 0; i < 40; i++) d.ship(0, 0, 0, 0, 0, 0);
+        for (int i = 0; i < 40; i++) d.passage(1, Full.EMPTY, 0);
         due.all("FULL", FULL, d.wave(0, 1, 1, 1), d.survey(0, 0), d.gauge(0, 0, 60), d.shoal(0, 0, 0), d.dredge(0, 0, 0),
             d.ship(0, 0, 0, 0, 0, 0), d.ship(4, 0, 0, 0, -1, 39), d.passage(0, 0, 0), d.leg(Full.LONG, 0, 300, 0));
         due.all("a wave", BAD, d.wave(0, -1, 1, 1), d.wave(0, 1, 60001, 1), d.wave(0, 1, 1, 65536));

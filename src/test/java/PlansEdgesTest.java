@@ -13,6 +13,7 @@ public final class PlansEdgesTest {
         patienceIsAskedOnce();
         byAFindingNone();
         findingsOfPlansMinutes();
+        findingThatCameLast();
         longestFirst();
         lockSeconds();
         lockOfNothing();
@@ -165,6 +166,20 @@ public final class PlansEdgesTest {
         due.row("60 minutes by night", Due.row(0, 1, 0, NONE), d.plan(), d.count(8), d.planned(1, 0), d.planned(1, 1));
         d.passage(2, 0, 301);
         due.row("the 60th is at RISE", Due.row(0, 2, 0, NONE), d.plan(), d.count(8), d.planned(2, 0), d.planned(2, 1));
+    }
+
+    /** "of windows(), plan(): the last one that came, by a minute or a PATIENCE". */
+    private static void findingThatCameLast() {
+        for (int turn = 0; turn < 2; turn++) {
+            TideDesk d = desk();
+            d.ship(TOW, 0, 100, 0, 0, 0);
+            d.ship(PAIR, 0, 0, 0, NONE, NONE);
+            d.passage(turn == 0 ? 2 : 3, 5, 0);
+            d.passage(turn == 0 ? 3 : 2, 5, 0);
+            d.passage(PATIENT, 5, 0);
+            due.row("a minute's ZERO, a PATIENCE's NULL", Due.row(1, turn == 0 ? 1 : 4, 2), d.plan(), d.finding(), d.count(8));
+            due.row("a plan without one leaves it", Due.row(0, turn == 0 ? 1 : 4, 2), d.plan(), d.finding(), d.count(8));
+        }
     }
 
     /** "those that WAIT longest first, of like ones by numbers": who comes first has the LOCK. */

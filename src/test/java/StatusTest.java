@@ -3,6 +3,7 @@ public final class StatusTest {
     private static final Due due = new Due("StatusTest");
 
     public static void main(String[] args) {
+        desksApart();
         count();
         finding();
         digest();
@@ -10,6 +11,20 @@ public final class StatusTest {
         fullCalls();
         fullLeavesTheRest();
         due.end();
+    }
+
+    /** What is done on one object is not seen on another. */
+    private static void desksApart() {
+        TideDesk other = new TideDesk();
+        TideDesk full = Full.make();
+        TideDesk later = new TideDesk();
+        due.is("full", full.count(5), 9);
+        for (TideDesk d : new TideDesk[] {other, later}) {
+            for (int what = 0; what <= 8; what++) due.is("count(" + what + ")", d.count(what), 0);
+            due.row("rules, MEAN, TRIES", Due.row(5, 12, 10, 0, 0), d.rule(0, 5), d.rule(1, 12), d.rule(2, 10), d.mean(0, 0), d.tries());
+            due.row("asked, TRACE, digest", Due.row(0, Due.NONE, 7, 0), d.asked(), d.trace(0), d.digest(), d.finding());
+            due.row("FLEETS, WATERS", Due.row(Due.NULL, Due.NONE, 1), d.member(0, 0), d.found(0, 0, 0), d.wave(0, 0, 0, 0));
+        }
     }
 
     private static void count() {

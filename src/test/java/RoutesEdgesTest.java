@@ -75,6 +75,13 @@ public final class RoutesEdgesTest {
         due.row("of another ROUTE", Due.row(1, 1), d.leg(1, 0, 0, NO_MARK), d.clear(1));
         d.again(1);
         due.row("it WAITS again", Due.row(2, 2), d.leg(0, 0, 0, NO_MARK), d.clear(0));
+        for (int p = 0; p < 3; p++) {
+            TideDesk e = over(1000);
+            e.ship(LIGHT, 0, 100, 0, 0, 0);
+            for (int i = 0; i < 3; i++) e.passage(0, i == p ? 0 : 1, 43199);
+            e.plan();
+            due.row("PASSAGE " + p + " alone", Due.row(Due.NO, Due.NO, Due.NO, 0), e.leg(0, 0, 0, NO_MARK), e.clear(0), e.clear(1), e.clear(2));
+        }
     }
 
     /** "at s and DISTANCE * 100 by its PACE", cut. */
@@ -149,6 +156,10 @@ public final class RoutesEdgesTest {
             d.ship(TOW, 0, 100, 1, 0, 0);
             due.is("till SET, " + distance, d.holds(0, 0, 1079), distance < 60 ? 1 : 0);
             due.is("the first LEG ahead of RISE", d.holds(0, 0, 359), 0);
+            d.clear(0);
+            d.leg(0, 0, distance, NO_MARK);
+            due.row("from RISE on, till SET, " + distance, Due.row(distance < 60 ? 0 : 1, distance < 60 ? 1 : 0), d.holds(0, 0, 359),
+                d.holds(0, 0, 1079));
         }
     }
 

@@ -21,6 +21,8 @@ public final class ShipsEdgesTest {
         askedStays();
         asOfKinds();
         fleetsOfPlaces();
+        fleetsAtFirst();
+        fleetsApart();
         fleetMadeAnew();
         storeByKinds();
         moveTillTheFirstThatDoesNotGo();
@@ -288,6 +290,37 @@ public final class ShipsEdgesTest {
         due.row("as it was", Due.row(NONE, Due.INDEX), d.member(1, 7), d.member(1, 8));
         due.row("the others are NOTHING", Due.row(Due.NULL, Due.NULL, Due.NULL), d.member(0, 0), d.member(2, 0), d.member(3, 0));
         due.row("SIZE makes none", Due.row(Due.SIZE, Due.NULL), d.fleet(0, 5, -1), d.member(0, 0));
+    }
+
+    /** "FLEETS 0 .. 3 are NOTHING (at first)"; one of no places is not NOTHING. */
+    private static void fleetsAtFirst() {
+        for (int f = 0; f < 4; f++) {
+            TideDesk d = new TideDesk();
+            int other = (f + 1) % 4;
+            due.row("NOTHING", Due.row(Due.NULL, Due.NULL, Due.NULL, Due.NULL), d.member(f, 0), d.join(f, 0, NONE), d.shared(f, 0),
+                d.move(f, 0, f, 0, 0));
+            d.fleet(f, 5, 0);
+            due.row("no places", Due.row(Due.INDEX, Due.INDEX, Due.ZERO, 0), d.member(f, 0), d.join(f, 0, NONE), d.shared(f, 0),
+                d.move(f, 0, f, 0, 0));
+            due.row("beside NOTHING", Due.row(Due.NULL, Due.NULL), d.move(f, 0, other, 0, 0), d.move(other, 0, f, 0, 0));
+            d.fleet(other, 5, 0);
+            due.row("beside one of none", Due.row(0, 0, Due.INDEX), d.move(f, 0, other, 0, 0), d.move(other, 0, f, 0, 0),
+                d.move(f, 0, other, 0, 1));
+        }
+    }
+
+    /** Eight places each, of their own. */
+    private static void fleetsApart() {
+        TideDesk d = new TideDesk();
+        for (int i = 0; i < 32; i++) d.ship(LIGHT, 0, 0, 0, 0, 0);
+        for (int f = 0; f < 4; f++) d.fleet(f, 5, 8);
+        for (int i = 0; i < 32; i++) d.join(i / 8, i % 8, i);
+        for (int i = 0; i < 32; i++) due.is("member", d.member(i / 8, i % 8), i);
+        d.fleet(1, 5, 8);
+        due.row("beside the one made anew", Due.row(7, NONE, NONE, 16), d.member(0, 7), d.member(1, 0), d.member(1, 7), d.member(2, 0));
+        d.join(2, 0, NONE);
+        due.row("shared among 8, none, 7", Due.row(1, 7, Due.ZERO, 1, 8), d.shared(0, 56), d.asked(), d.shared(1, 56), d.shared(2, 56),
+            d.asked());
     }
 
     private static void fleetMadeAnew() {

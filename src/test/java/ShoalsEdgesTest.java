@@ -138,6 +138,13 @@ public final class ShoalsEdgesTest {
         d.survey(0, 0);
         due.is("surveyed", d.water(0, 0), Due.real(2.3));
         due.is("as KNOWN before", d.depth(0, 0, 99), Due.real(1.0));
+        d.gauge(0, 0, 60);
+        d.reading(0, 100, 0);
+        due.is("the SURGE, too", d.water(0, 0), Due.real(2.0 + 0.3 + (1.0 - 0.3)));
+        d.clock(101);
+        d.mean(0, 40);
+        d.survey(0, 0);
+        due.is("and again", d.water(0, 0), Due.real(2.0 + 0.4 + (1.0 - 0.4)));
     }
 
     /** "if there is such a one, it is in, and a READING is there": else DEPTH alone, and no FINDING. */

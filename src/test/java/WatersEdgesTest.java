@@ -24,6 +24,8 @@ public final class WatersEdgesTest {
         hoursFromTheHigh();
         nearestHigh();
         streamsAreKept();
+        stationsApart();
+        rowsApart();
         due.end();
     }
 
@@ -233,8 +235,12 @@ public final class WatersEdgesTest {
         d.clock(50);
         d.mean(0, 50);
         d.survey(0, 1);
-        due.is("as KNOWN NOW", d.waters(0, FROM, 30), 1);
-        kinds(d, "as KNOWN NOW", 0);
+        d.mean(0, 700);
+        d.survey(0, 2);
+        due.is("as KNOWN NOW", d.waters(0, FROM, 60), 2);
+        kinds(d, "as KNOWN NOW", 0, 1);
+        moments(d, "HALVING, too", DAY, 2 * DAY);
+        due.is("HEIGHTS, too", d.range(0, 0), Due.real(7.0 - 0.5));
     }
 
     /** "with their HEIGHTS as they were then". */
@@ -355,5 +361,45 @@ public final class WatersEdgesTest {
         due.row("the ends", Due.row(Due.bits(1.5f), Due.bits(-1.5f)), d.stream(0, DAY - 6 * 3600), d.stream(0, DAY + 6 * 3600));
         d.waters(0, FROM, 40);
         due.is("WATERS found anew leave it", d.stream(0, DAY - 6 * 3600), Due.bits(1.5f));
+    }
+
+    /** WATERS of each STATION are its own, 40 of them, too. */
+    private static void stationsApart() {
+        TideDesk d = new TideDesk();
+        d.rule(2, 5);
+        for (int s = 0; s < 12; s++) {
+            d.wave(s, 1000 + s, 32768, 32768 * (s % 2));
+            d.survey(s, 0);
+            due.is("waters", d.waters(s, 0, s == 11 ? 132 : 200), s == 11 ? 39 : 40);
+        }
+        for (int s = 0; s < 12; s++) {
+            int last = s == 11 ? 38 : 39;
+            due.row("the first of " + s, Due.row(1000, s % 2), d.found(s, 0, 0), d.found(s, 0, 1));
+            due.row("the last of " + s, Due.row(1000 + 1000 * last, (last + s) % 2, Due.NONE), d.found(s, last, 0), d.found(s, last, 1),
+                d.found(s, last + 1, 0));
+            double high = 0.0 + (1000 + s) / 1000.0;
+            due.row("RANGES of " + s, Due.row(Due.real(high + high), Due.real(high + high)), d.range(s, 0), d.range(s, last - 1));
+            due.row("SPRING and NEAP of " + s, Due.row(0, 0), d.spring(s, true), d.spring(s, false));
+        }
+    }
+
+    /** Each STATION has a row of its own. */
+    private static void rowsApart() {
+        TideDesk d = new TideDesk();
+        for (int s = 0; s < 12; s++) {
+            d.mean(s, 100);
+            d.survey(s, 0);
+            d.mean(s, 200);
+            d.survey(s, 1);
+            for (int hour = -6; hour <= 6; hour += 6) d.tide(s, hour, Due.bits(s + hour / 6 * 0.25f));
+        }
+        d.rule(2, 60);
+        for (int s = 0; s < 12; s++) {
+            d.waters(s, FROM, 30);
+            for (int hour = -6; hour <= 6; hour += 3) {
+                float told = hour % 6 == 0 ? s + hour / 6 * 0.25f : 0.0f;
+                due.is("STATION " + s + ", hour " + hour, d.stream(s, DAY + hour * 3600), Due.bits(told));
+            }
+        }
     }
 }

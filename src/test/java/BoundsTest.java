@@ -181,6 +181,7 @@ public final class BoundsTest {
             }
         }
         none("found of", BAD, (d, v) -> d.found(v, 0, 0)).goes(0, 32000, 11, Due.NONE);
+        none("HIGH of", BAD, (d, v) -> d.found(v, 1, 1)).goes(0, 1, 11, Due.NONE);
         none("found", Due.NONE, (d, v) -> d.found(0, v, 1)).goes(0, 0, 4, 0);
         none("found what", BAD, (d, v) -> d.found(0, 0, v)).goes(0, 32000, 1, 0);
         Supplier<TideDesk> waving = () -> {
@@ -226,7 +227,10 @@ public final class BoundsTest {
         }
         onNew("PACE as told", BAD, (d, v) -> d.ship(0, 0, v, 0, 0, 0) == 0 ? d.ask(0, 2) + d.asked() : BAD).goes(0, 1, 3000, 3001);
         onNew("NEED as told", BAD, (d, v) -> d.ship(1, v, 0, 0, 0, 0) == 0 ? d.ask(0, 0) + d.asked() : BAD).goes(0, 31, 3000, 3031);
-        bad("ask of", (d, v) -> d.ask(v, 1)).goes(0, 8, 1);
+        for (int what = 0; what < 5; what++) {
+            int of = what;
+            bad("ask " + what + " of", (d, v) -> d.ask(v, of)).goes(0, 8, 1);
+        }
         bad("ask", (d, v) -> d.ask(0, v)).goes(0, 4, 1);
         none("trace", Due.NONE, (d, v) -> {
             d.ask(2, 0);
@@ -333,6 +337,8 @@ public final class BoundsTest {
         bad("passage on", (d, v) -> d.passage(0, v, 0)).goes(0, 5, 8);
         bad("passage from", (d, v) -> d.passage(0, 0, v)).goes(0, 43199, 8);
         bad("planned of", (d, v) -> d.planned(v, 0)).goes(0, 0, 7, 1);
+        bad("start of", (d, v) -> d.planned(v, 1)).goes(0, 50, 7, Due.NONE);
+        bad("WAITED of", (d, v) -> d.planned(v, 2)).goes(0, 7, NOW);
         bad("planned", (d, v) -> d.planned(0, v)).goes(0, 0, 2, NOW);
         bad("again", (d, v) -> d.again(v)).goes(0, 1, 7, Due.NO);
         bad("pass", (d, v) -> d.pass(v)).goes(0, 1, 7, Due.HELD);

@@ -16,6 +16,8 @@ public final class SpentTest {
         findingsOfPlans();
         behindNo();
         othersGoOn();
+        everyFinding();
+        everyBad();
         due.end();
     }
 
@@ -171,5 +173,40 @@ public final class SpentTest {
         due.is("NO", d.again(0), Due.NO);
         TideDesk e = spent(3001);
         due.is("digest", e.digest(), spent(2000).digest());
+    }
+
+    /** FULL is ahead of each FINDING of each call. */
+    private static void everyFinding() {
+        TideDesk d = spent(3000);
+        due.all("REALS", NO_REAL, d.height(2, 0, 0), d.surge(Full.OUT, 0), d.surge(Full.BLIND, 0), d.depth(Full.OPEN, 0, 0),
+            d.depth(Full.UNKNOWN, 0, NOW), d.water(Full.UNKNOWN, 0), d.range(0, 0));
+        due.all("FLOATS", NO_FLOAT, d.air(Full.OUT, 0), d.air(Full.THREE, 3), d.air(Full.THREE, -1), d.stream(1, 0), d.stream(0, 2591999));
+        due.all("hundredths", -100000, d.at(Full.OUT, 0), d.at(Full.THREE, 3), d.at(Full.THREE, -1));
+        due.all("of WAVES, GAUGES, WATERS", FULL, d.force(2, 0, 0), d.reading(Full.OUT, 0, 0), d.compare(Full.OUT, 0, 0),
+            d.compare(Full.THREE, 3, 0), d.compare(Full.THREE, 0, 3), d.waters(2, 0, 3));
+        due.all("of SHIPS", FULL, d.ask(Full.HALF_PAIR, 0), d.ask(Full.ZERO_TOW, 2), d.as(Due.NONE, 0), d.as(0, 4));
+        due.all("of FLEETS", FULL, d.fleet(0, 0, -1), d.fleet(3, 0, Due.MIN), d.join(3, 0, 0), d.join(0, 3, 0), d.join(1, 0, 1), d.member(3, 0),
+            d.member(0, -1), d.move(3, 0, 0, 0, 0), d.move(0, 0, 3, 0, 0), d.move(0, -1, 0, 0, 1), d.move(0, 0, 1, 0, 1), d.shared(3, 0),
+            d.shared(2, 0));
+        due.all("of ROUTES", FULL, d.comes(Full.HALF_PAIR, 0, 0, 0), d.comes(Full.ZERO_TOW, 0, 0, 0), d.holds(Full.HALF_PAIR, 0, 0),
+            d.holds(1, Full.LOST, 0), d.windows(Full.HALF_PAIR, 0, 0, 1), d.pass(3), d.pass(4), d.pass(5), d.plan());
+        due.row("none of them came", Due.row(3000, 1, 1), d.count(8), d.finding(), d.tries());
+    }
+
+    /** BAD is ahead of FULL for each number of each call. */
+    private static void everyBad() {
+        TideDesk d = spent(3000);
+        due.all("of WAVES", BAD, d.force(12, 0, 0), d.force(0, 2592000, 0), d.force(0, 0, NOW + 1), d.force(0, 0, -1));
+        due.all("of GAUGES", BAD, d.reading(4, 0, 0), d.reading(0, 32768, 0), d.compare(-1, 0, 0), d.compare(4, 0, 0));
+        due.all("of WATERS", BAD, d.waters(12, 0, 3), d.waters(0, -1, 3), d.waters(0, 0, 2), d.waters(0, 0, 201), d.waters(0, 2591999, 3),
+            d.waters(0, 2592000 - 2400, 3));
+        due.all("of SHIPS", BAD, d.ask(9, 0), d.ask(0, 5), d.ask(0, -1), d.as(9, 0), d.as(-2, 0), d.as(0, 5), d.as(Due.NONE, 5));
+        due.all("of FLEETS", BAD, d.fleet(4, 0, 1), d.fleet(0, 6, 1), d.fleet(0, 0, 9), d.fleet(4, 0, -1), d.join(4, 0, 0), d.join(0, 0, 9),
+            d.join(3, 0, -2), d.member(-1, 0), d.move(4, 0, 0, 0, 0), d.move(0, 0, -1, 0, 0), d.shared(4, 0), d.shared(3, -1));
+        due.all("of coming", BAD, d.comes(9, 0, 0, 0), d.comes(0, 6, 0, 0), d.comes(0, 0, 2, 0), d.comes(0, 0, -1, 0), d.comes(0, 0, 0, 2592000));
+        due.all("of minutes", BAD, d.holds(9, 0, 0), d.holds(0, 6, 0), d.holds(0, 0, 43200), d.windows(9, 0, 0, 1), d.windows(0, 6, 0, 1),
+            d.windows(0, 0, 0, 0), d.windows(0, 0, 0, 121), d.windows(0, 0, -1, 1), d.windows(0, 0, 43199, 2));
+        due.all("of PASSAGES", BAD, d.pass(8), d.pass(-1));
+        due.row("none came", Due.row(3000, 1, 1), d.count(8), d.finding(), d.tries());
     }
 }

@@ -292,6 +292,13 @@ public final class WatersEdgesTest {
         highs.waters(0, FROM, 27);
         due.row("one alone", Due.row(Due.NONE, Due.NONE), highs.spring(0, true), highs.spring(0, false));
         due.row("no FINDING", Due.row(0, 0, 0), d.count(8), mixed.count(8), highs.count(8));
+        int[] others = {100, 300, 100, 200, 0, 100};
+        for (int day = 0; day < 6; day++) {
+            d.mean(11, others[day]);
+            d.survey(11, day);
+        }
+        d.waters(11, FROM, 140);
+        due.row("of each STATION", Due.row(0, 1, 1, 0), d.spring(11, true), d.spring(11, false), d.spring(0, true), d.spring(0, false));
     }
 
     private static void foundNone() {

@@ -610,7 +610,10 @@ public final class TideDesk {
         return within(p, 0, passages.count - 1);
     }
 
-    /** BITS by sums alone, as the library's own are not at hand. No act of the desk gives -0.0 or less than 2 to the -1022nd. */
+    /**
+     * BITS by sums alone, as the library's own are not at hand. No act of the desk gives -0.0, or one so near to it
+     * that its BITS would need another form.
+     */
     private static long realBits(double v) {
         if (v == 0.0) return 0L;
         double a = v < 0.0 ? 0.0 - v : v;
@@ -814,7 +817,7 @@ public final class TideDesk {
             return NONE;
         }
 
-        /** NULL, LACK, or 0 with the SURGE in surgeFound; but for NULL absent tells how many READINGS were not there. */
+        /** NULL, LACK, or 0 with the SURGE in surgeFound; but for NULL absent tells how many were not there. */
         int reckonSurge(int gauge, int t, int now) {
             if (isOut[gauge]) return NULL;
             int end = readingsTill(gauge, t);
